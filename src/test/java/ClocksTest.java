@@ -11,6 +11,7 @@ public final class ClocksTest {
         anewClock();
         copyClock();
         ofClock();
+        ofClockOfEachMinute();
         orderClock();
         isClock();
         Due.end();
@@ -181,6 +182,19 @@ public final class ClocksTest {
         for (int no : NO_CLOCKS) {
             Due.throwsIt("30: clock " + no, desk, Due.NO_SUCH_ONE, () -> desk.ofClock(no, 0));
             Due.throwsIt("30: both wrong " + no, desk, Due.NO_SUCH_ONE, () -> desk.ofClock(no, 6));
+        }
+    }
+
+    private static void ofClockOfEachMinute() {
+        Momentdesk desk = new Momentdesk();
+        for (int minute = 0; minute < 1440; minute++) {
+            for (int second : new int[] {0, 59}) {
+                desk.clock(0, minute * 60 + second, 0, 0);
+                Due.is("30: HOUR of " + minute, minute / 60, desk.ofClock(0, 0));
+                Due.is("30: MINUTE of " + minute, minute % 60, desk.ofClock(0, 1));
+                Due.is("30: SECOND OF THE MINUTE of " + minute, second, desk.ofClock(0, 2));
+                Due.is("30: SECOND OF THE DAY of " + minute, minute * 60 + second, desk.ofClock(0, 5));
+            }
         }
     }
 

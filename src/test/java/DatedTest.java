@@ -17,6 +17,7 @@ public final class DatedTest {
         copy();
         ofDate();
         ofDateOfEachDay();
+        ofDateOfEachMinute();
         orderDate();
         isDate();
         Due.end();
@@ -347,6 +348,19 @@ public final class DatedTest {
             int read = want.getMonthValue() * 100 + want.getDayOfMonth();
             Due.is("15: the day " + want, day, desk.date(1, want.getYear(), read, 0, 0, 0));
             desk.moveDate(0, 3, 1, false);
+        }
+    }
+
+    private static void ofDateOfEachMinute() {
+        Momentdesk desk = new Momentdesk();
+        for (int minute = 0; minute < 1440; minute++) {
+            for (int second : new int[] {0, 59}) {
+                desk.date(0, 1955, 310, minute * 60 + second, 0, 3);
+                Due.is("21: HOUR of " + minute, minute / 60, desk.ofDate(0, 4));
+                Due.is("21: MINUTE of " + minute, minute % 60, desk.ofDate(0, 5));
+                Due.is("21: SECOND OF THE MINUTE of " + minute, second, desk.ofDate(0, 6));
+                Due.is("21: SECOND OF THE DAY of " + minute, minute * 60 + second, desk.ofDate(0, 12));
+            }
         }
     }
 
